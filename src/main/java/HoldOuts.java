@@ -153,7 +153,7 @@ public final class HoldOuts {
         if (faultPlace != NONE || number < 0 || number >= contests.length || contests[number] == null) {
             return NONE;
         }
-        contests[number].text.copy(reader.draft);
+        contests[number].copy(reader.draft);
         contests[number].table.forgetAll();
         contestCount++;
         return number;
@@ -171,7 +171,7 @@ public final class HoldOuts {
         if (mine < 0 || mine > MOST_ASKED_SUM || other < 0 || other > MOST_ASKED_SUM) {
             return NO_GETS;
         }
-        return asked.text.tellsForSums(numbered(who), mine, other);
+        return asked.tellsForSums(numbered(who), mine, other);
     }
 
     public int rests(int contest) {
@@ -237,7 +237,7 @@ public final class HoldOuts {
             edgePlayer.worth++;
             edgeTable.forgetAll();
             // With the same GETS as one worth before there are the same RESTS, too.
-            if (edgeTable.fillFor(asked.text, edgePlayer)) {
+            if (edgeTable.fillFor(asked, edgePlayer)) {
                 finder.search(edgeTable, first.purse, second.purse);
                 if (edgeTable.restsUnlike(now)) {
                     return edgePlayer.worth;
@@ -318,7 +318,7 @@ public final class HoldOuts {
         if (asked == null || k < 0 || what < 0 || what > 3) {
             return NONE;
         }
-        int row = sorts.findRow(asked.text, first, second, k);
+        int row = sorts.findRow(asked, first, second, k);
         if (row < 0) {
             return NONE;
         }
@@ -334,7 +334,7 @@ public final class HoldOuts {
         if (asked == null || k < 0) {
             return NONE;
         }
-        long rows = trio.restingRows(asked.text, first, second, third);
+        long rows = trio.restingRows(asked, first, second, third);
         int seen = 0;
         for (int code = 0; code < FEW_CODES; code++) {
             if (((rows >>> code) & 1) != 0 && seen++ == k) {
@@ -349,7 +349,7 @@ public final class HoldOuts {
         if (asked == null) {
             return NONE;
         }
-        return trio.idleBits(trio.restingRows(asked.text, first, second, third));
+        return trio.idleBits(trio.restingRows(asked, first, second, third));
     }
 
     public long days(int contest, int q0, int q1, int n, int what) {
@@ -357,7 +357,7 @@ public final class HoldOuts {
         if (asked == null || !isParts(q0) || !isParts(q1) || !isDays(n) || what < 0 || what > 6) {
             return NONE;
         }
-        return daily.tells(asked.text, what == 1 ? first : second, q0, q1, n, what);
+        return daily.tells(asked, what == 1 ? first : second, q0, q1, n, what);
     }
 
     public int leave(int contest, int q1, int n) {
@@ -365,7 +365,7 @@ public final class HoldOuts {
         if (asked == null || !isParts(q1) || !isDays(n)) {
             return NONE;
         }
-        return daily.bestLeaving(asked.text, first, q1, n);
+        return daily.bestLeaving(asked, first, q1, n);
     }
 
     public int learn(int contest, int n, int who, int sum) {
@@ -403,7 +403,7 @@ public final class HoldOuts {
         }
         int pay = Math.max(0, found.leastNotBelowMean(1 - who));
         Player payer = numbered(who);
-        int left = asked.text.tellsForSums(payer, payer.purse > 0 ? 1 : 0, 0) - pay;
+        int left = asked.tellsForSums(payer, payer.purse > 0 ? 1 : 0, 0) - pay;
         return left * found.lowerOf(who) >= found.upperOf(who) ? pay : NONE;
     }
 
@@ -469,20 +469,20 @@ public final class HoldOuts {
 
     private int lastStatements() {
         Contest last = toldContest(contestCount - 1);
-        return last == null ? 0 : last.text.statements;
+        return last == null ? 0 : last.statements;
     }
 
     private Table filledTable(Contest asked) {
-        asked.table.fillFor(asked.text, first);
-        asked.table.fillFor(asked.text, second);
+        asked.table.fillFor(asked, first);
+        asked.table.fillFor(asked, second);
         return asked.table;
     }
 
     private Table searchedTable(Contest asked) {
         Table table = asked.table;
         if (!table.isSearched) {
-            table.fillFor(asked.text, first);
-            table.fillFor(asked.text, second);
+            table.fillFor(asked, first);
+            table.fillFor(asked, second);
             finder.search(table, first.purse, second.purse);
         }
         return table;
@@ -560,16 +560,11 @@ public final class HoldOuts {
         }
     }
 
-    private static final class Contest {
-        private final Text text = new Text();
-        private final Table table = new Table();
-    }
-
     /**
-     * A CONTEST's statements as steps for a stack: a number from 0 on is put on it, every other step
-     * is the complement of a token's kind.
+     * A CONTEST: its statements as steps for a stack. A number from 0 on is put on it, every other
+     * step is the complement of a token's kind.
      */
-    private static final class Text {
+    private static final class Contest {
         // Nine open in one another, with two results waiting in each, need no more than 24.
         private static final int STACK = 40;
         private static final int ASKED_WORDS = 6;
@@ -583,13 +578,14 @@ public final class HoldOuts {
         private int statements = 0;
         private final int[] asked = new int[ASKED_WORDS];
         private final int[] stack = new int[STACK];
+        private final Table table = new Table();
 
         private void clear() {
             length = 0;
             statements = 0;
         }
 
-        private void copy(Text from) {
+        private void copy(Contest from) {
             System.arraycopy(from.steps, 0, steps, 0, steps.length);
             System.arraycopy(from.outcomes, 0, outcomes, 0, outcomes.length);
             System.arraycopy(from.starts, 0, starts, 0, starts.length);
@@ -694,7 +690,7 @@ public final class HoldOuts {
         private int tokens = 0;
         private int at = 0;
         private int fault = NONE;
-        private final Text draft = new Text();
+        private final Contest draft = new Contest();
 
         /** The FAULT of the first bytes of the tape; NONE: the draft has their statements. */
         private int read(int[] tape, int length) {
@@ -910,7 +906,7 @@ public final class HoldOuts {
             if (kind == NUMBER && at >= 0 && at < numbers.length) {
                 draft.addNumber(numbers[at]);
                 next();
-            } else if (Text.isAsked(kind)) {
+            } else if (Contest.isAsked(kind)) {
                 draft.addStep(kind);
                 next();
             } else if (kind == OPEN_ROUND) {
@@ -945,14 +941,14 @@ public final class HoldOuts {
         }
 
         /** Fills in what one of both gets, if that isn't known: whether it changed anything. */
-        private boolean fillFor(Text text, Player player) {
+        private boolean fillFor(Contest contest, Player player) {
             boolean changes = false;
             int bit = 1 << player.number;
             for (int couple = 0; couple < COUPLES && (filledBits & bit) == 0; couple++) {
                 int at = player.number * COUPLES + couple;
                 int mine = couple / SUMS;
                 int other = couple % SUMS;
-                int told = text.tells(player, outcomeOf(mine, other), mine, other, 0);
+                int told = contest.tells(player, outcomeOf(mine, other), mine, other, 0);
                 if (at >= 0 && at < cells.length && cells[at] != told) {
                     cells[at] = told;
                     changes = true;
@@ -1129,6 +1125,7 @@ public final class HoldOuts {
         private final int[] bits = new int[SET_COUNT];
         private final int[] members = new int[SET_COUNT * MOST_SET];
         private final int[] above = new int[2 * COUPLES];
+        private final int[] needs = new int[MOST_SET * (MOST_SET - 1)];
         private final long[] gaps = new long[2 * MOST_SET];
         private final long[] weights = new long[MOST_SET];
 
@@ -1166,13 +1163,15 @@ public final class HoldOuts {
 
         private void search(Table table, int firstPurse, int secondPurse) {
             table.clearRests();
-            compareSums(table);
+            compareSums(table, 0);
+            compareSums(table, 1);
             for (int size = 1; size <= MOST_SET; size++) {
                 int start = SET_STARTS[size - 1];
                 int end = SET_STARTS[size];
                 for (int mine = start; mine < end && bitsOf(mine) < 2 << firstPurse; mine++) {
+                    gatherNeeds(size, mine);
                     for (int other = start; other < end && bitsOf(other) < 2 << secondPurse; other++) {
-                        if (mayMix(0, size, mine, other) && mayMix(1, size, other, mine)
+                        if (meetsNeeds(size, bitsOf(other)) && mayMix(1, size, other, mine)
                                 && isBest(table, 0, mine, other, firstPurse)
                                 && isBest(table, 1, other, mine, secondPurse)) {
                             int place = (mine - start) * (end - start) + other - start;
@@ -1185,19 +1184,32 @@ public final class HoldOuts {
         }
 
         /** Of each two SUMS of a PLAYER: bits of the other's SUMS against which one gets more. */
-        private void compareSums(Table table) {
-            for (int at = 0; at < above.length; at++) {
-                int who = at / COUPLES;
-                int one = at % COUPLES / SUMS;
-                int two = at % SUMS;
-                int found = 0;
-                for (int other = 0; other < SUMS; other++) {
-                    if (table.cell(who, one, other) > table.cell(who, two, other)) {
-                        found |= 1 << other;
+        private void compareSums(Table table, int who) {
+            for (int one = 0; one < SUMS; one++) {
+                for (int two = 0; two < one; two++) {
+                    int oneMore = 0;
+                    int twoMore = 0;
+                    for (int other = 0; other < SUMS; other++) {
+                        int gap = table.cell(who, one, other) - table.cell(who, two, other);
+                        oneMore |= gap > 0 ? 1 << other : 0;
+                        twoMore |= gap < 0 ? 1 << other : 0;
                     }
+                    setAbove(who, one, two, oneMore);
+                    setAbove(who, two, one, twoMore);
                 }
+            }
+        }
+
+        private void setAbove(int who, int one, int two, int found) {
+            int at = who * COUPLES + one * SUMS + two;
+            if (at >= 0 && at < above.length) {
                 above[at] = found;
             }
+        }
+
+        private int aboveOf(int who, int one, int two) {
+            int at = who * COUPLES + one * SUMS + two;
+            return at >= 0 && at < above.length ? above[at] : 0;
         }
 
         /**
@@ -1209,10 +1221,31 @@ public final class HoldOuts {
             int against = bitsOf(other);
             for (int i = 0; i < size; i++) {
                 for (int j = 0; j < size; j++) {
-                    int at = who * COUPLES + member(mine, i) * SUMS + member(mine, j);
-                    if (i != j && at >= 0 && at < above.length && (above[at] & against) == 0) {
+                    if (i != j && (aboveOf(who, member(mine, i), member(mine, j)) & against) == 0) {
                         return false;
                     }
+                }
+            }
+            return true;
+        }
+
+        /** What mayMix would ask for PLAYER 0's set of all other sets, so that it's looked up once. */
+        private void gatherNeeds(int size, int mine) {
+            int at = 0;
+            for (int i = 0; i < size; i++) {
+                for (int j = 0; j < size; j++) {
+                    if (i != j && at < needs.length) {
+                        needs[at] = aboveOf(0, member(mine, i), member(mine, j));
+                        at++;
+                    }
+                }
+            }
+        }
+
+        private boolean meetsNeeds(int size, int against) {
+            for (int i = 0; i < size * (size - 1) && i < needs.length; i++) {
+                if ((needs[i] & against) == 0) {
+                    return false;
                 }
             }
             return true;
@@ -1239,7 +1272,8 @@ public final class HoldOuts {
         /** What a SUM gets against the other's set, by the weights that stand. */
         private long against(Table table, int who, int sum, int other) {
             long value = 0;
-            for (int i = 0; i < sizeOf(other) && i < weights.length; i++) {
+            int size = sizeOf(other);
+            for (int i = 0; i < size && i < weights.length; i++) {
                 value += weights[i] * table.cell(who, sum, member(other, i));
             }
             return value;
@@ -1248,11 +1282,14 @@ public final class HoldOuts {
         /** The other's CHANCES with which all SUMS of a set get the same, as weights above 0. */
         private boolean weigh(Table table, int who, int mine, int other) {
             int size = sizeOf(other);
-            for (int i = 0; i < MOST_SET; i++) {
+            int one = member(mine, 0);
+            int two = member(mine, 1);
+            int three = member(mine, 2);
+            for (int i = 0; i < size && i < MOST_SET; i++) {
                 int sum = member(other, i);
-                int start = table.cell(who, member(mine, 0), sum);
-                gaps[i] = start - table.cell(who, member(mine, 1), sum);
-                gaps[MOST_SET + i] = start - table.cell(who, member(mine, 2), sum);
+                int start = table.cell(who, one, sum);
+                gaps[i] = start - table.cell(who, two, sum);
+                gaps[MOST_SET + i] = start - table.cell(who, three, sum);
             }
             weights[0] = 1;
             if (size == 2) {
@@ -1263,7 +1300,7 @@ public final class HoldOuts {
                 weights[1] = gaps[2] * gaps[3] - gaps[0] * gaps[5];
                 weights[2] = gaps[0] * gaps[4] - gaps[1] * gaps[3];
             }
-            return turnAbove(size);
+            return turnAbove(size, total(size));
         }
 
         private long total(int size) {
@@ -1275,8 +1312,7 @@ public final class HoldOuts {
         }
 
         /** Turns weights that are all below 0; a total of 0: there is no row, or more than one. */
-        private boolean turnAbove(int size) {
-            long total = total(size);
+        private boolean turnAbove(int size, long total) {
             boolean areAbove = total != 0;
             for (int i = 0; i < size && i < weights.length; i++) {
                 weights[i] = total < 0 ? -weights[i] : weights[i];
@@ -1594,12 +1630,12 @@ public final class HoldOuts {
         }
 
         /** The k-th SORTED as 64 times 0's code and 1's; NONE: none such. */
-        private int findRow(Text text, Player first, Player second, int k) {
+        private int findRow(Contest contest, Player first, Player second, int k) {
             if (!isShared(0) || !isShared(1)) {
                 return NONE;
             }
-            fillCells(text, first);
-            fillCells(text, second);
+            fillCells(contest, first);
+            fillCells(contest, second);
             fillPuts(first);
             fillPuts(second);
             fillBests(first);
@@ -1617,7 +1653,7 @@ public final class HoldOuts {
             return ((who * MOST_SORTS + sort) * FEW_SUMS + mine) * FEW_SUMS + other;
         }
 
-        private void fillCells(Text text, Player player) {
+        private void fillCells(Contest contest, Player player) {
             asked.become(player);
             for (int sort = 0; sort < countOf(player.number); sort++) {
                 asked.worth = worthOf(player.number, sort);
@@ -1626,7 +1662,7 @@ public final class HoldOuts {
                     int other = couple % FEW_SUMS;
                     int at = placeOfCell(player.number, sort, mine, other);
                     if (at >= 0 && at < cells.length) {
-                        cells[at] = text.tellsForSums(asked, mine, other);
+                        cells[at] = contest.tellsForSums(asked, mine, other);
                     }
                 }
             }
@@ -1703,10 +1739,10 @@ public final class HoldOuts {
         private final int[] scores = new int[FEW_SUMS];
 
         /** A bit for each code that is at rest. */
-        private long restingRows(Text text, Player first, Player second, Player third) {
-            fillBests(text, first);
-            fillBests(text, second);
-            fillBests(text, third);
+        private long restingRows(Contest contest, Player first, Player second, Player third) {
+            fillBests(contest, first);
+            fillBests(contest, second);
+            fillBests(contest, third);
             long rows = 0;
             for (int code = 0; code < FEW_CODES; code++) {
                 int a = sumIn(code, 0);
@@ -1724,10 +1760,10 @@ public final class HoldOuts {
             return (code >>> (2 * (2 - who))) & (FEW_SUMS - 1);
         }
 
-        private void fillBests(Text text, Player player) {
+        private void fillBests(Contest contest, Player player) {
             for (int other = 0; other < FEW_SUMS; other++) {
                 for (int mine = 0; mine < scores.length; mine++) {
-                    scores[mine] = text.tellsForSums(player, mine, other);
+                    scores[mine] = contest.tellsForSums(player, mine, other);
                 }
                 int at = player.number * FEW_SUMS + other;
                 if (at >= 0 && at < bestBits.length) {
@@ -1762,7 +1798,7 @@ public final class HoldOuts {
             return mass * one * two / MILLION;
         }
 
-        private long tells(Text text, Player player, int q0, int q1, int n, int what) {
+        private long tells(Contest contest, Player player, int q0, int q1, int n, int what) {
             long mass = FIRST_MASS;
             long all = 0;
             for (int day = 1; day <= n; day++) {
@@ -1771,8 +1807,8 @@ public final class HoldOuts {
                 long secondAlone = share(mass, q1, ALL_PARTS - q0);
                 mass -= both + firstAlone + secondAlone;
                 switch (what) {
-                    case 1: all += dayGets(text, player, day, both, firstAlone, secondAlone); break;
-                    case 2: all += dayGets(text, player, day, both, secondAlone, firstAlone); break;
+                    case 1: all += dayGets(contest, player, day, both, firstAlone, secondAlone); break;
+                    case 2: all += dayGets(contest, player, day, both, secondAlone, firstAlone); break;
                     case 3: all += secondAlone; break;
                     case 4: all += firstAlone; break;
                     case 5: all += both; break;
@@ -1782,20 +1818,20 @@ public final class HoldOuts {
             return what == 0 ? mass : all;
         }
 
-        private static long dayGets(Text text, Player player, int day, long tied, long lost, long won) {
-            return text.tells(player, TIE, day, day, day) * tied
-                + text.tells(player, LOSE, day, day, day) * lost
-                + text.tells(player, WIN, day, day, day) * won;
+        private static long dayGets(Contest contest, Player player, int day, long tied, long lost, long won) {
+            return contest.tells(player, TIE, day, day, day) * tied
+                + contest.tells(player, LOSE, day, day, day) * lost
+                + contest.tells(player, WIN, day, day, day) * won;
         }
 
         /** All choices go through the days together, as GETS of a day are the same for each. */
-        private int bestLeaving(Text text, Player player, int q1, int n) {
+        private int bestLeaving(Contest contest, Player player, int q1, int n) {
             Arrays.fill(masses, FIRST_MASS);
             Arrays.fill(totals, 0);
             for (int day = 1; day <= n; day++) {
-                long tie = text.tells(player, TIE, day, day, day);
-                long lose = text.tells(player, LOSE, day, day, day);
-                long win = text.tells(player, WIN, day, day, day);
+                long tie = contest.tells(player, TIE, day, day, day);
+                long lose = contest.tells(player, LOSE, day, day, day);
+                long win = contest.tells(player, WIN, day, day, day);
                 for (int i = 0; i < masses.length && i < totals.length; i++) {
                     int q0 = i * LEAVE_STEP;
                     long both = share(masses[i], q0, q1);

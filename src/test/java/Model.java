@@ -944,7 +944,8 @@ final class Model {
         for (int round = 0; round < n; round++) {
             int[] sums = new int[2];
             for (int who = 0; who < 2; who++) {
-                z = z.multiply(new BigInteger("6364136223846793005")).add(new BigInteger("1442695040888963407")).mod(all);
+                z = z.multiply(new BigInteger("6364136223846793005"));
+                z = z.add(new BigInteger("1442695040888963407")).mod(all);
                 int v = z.shiftRight(33).mod(BigInteger.valueOf(1000)).intValueExact();
                 int together = puts[who][0];
                 while (together <= v) {
