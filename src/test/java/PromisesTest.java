@@ -176,6 +176,11 @@ public final class PromisesTest {
         faultIs("win 3 if [1<2", 13);
         faultIs("win (3", 6);
         faultIs("wins 3;", 0);
+        faultIs("winz 3;", 0);
+        faultIs("awin 3;", 0);
+        faultIs("bin 3;", 0);
+        faultIs("win nine;", 4);
+        faultIs("win da;", 4);
         faultIs("Win 3;", 0);
         faultIs("3;", 0);
         faultIs(";", 0);
@@ -343,6 +348,15 @@ public final class PromisesTest {
         due("7: rests where all is one, PURSES 1 and 2", two(1, 1, 1, 2, "").rests(0), 6);
         HoldOuts x = two(1, 1, 1, 1, PENNIES);
         due("7: rests(-1)", x.rests(-1), -1);
+        // Thirds of the SUMS 5 to 7, all lesser ones being worse: the last couple of sets that there is.
+        HoldOuts last = two(5, 7, 6, 7, "lose 0-99 if mine<5;tie 0-99 if mine<5;win 0-99 if mine<5;" + THIRDS);
+        due("7: rests of the last thirds", last.rests(0), 1);
+        due("8: the last set", last.rest(0, 0, 1), 224);
+        due("8: the last set", last.rest(0, 0, 2), 224);
+        due("8: 0's chance", last.rest(0, 0, 17), 1);
+        due("8: 1's chance", last.rest(0, 0, 25), 1);
+        due("8: no chance", last.rest(0, 0, 14), 0);
+        due("10: lost", last.lost(0, 0), 12_000_000);
         due("7: rests(1)", x.rests(1), -1);
     }
 
@@ -432,6 +446,7 @@ public final class PromisesTest {
         due("11: wrong of pennies", halves.wrong(0, 0), 500_000);
         HoldOuts alike = two(5, 1, 5, 1, PENNIES);
         due("11: alike", alike.wrong(0, 0), 0);
+        due("11: 1 of less", two(6, 1, 5, 1, PENNIES).wrong(0, 0), 500_000);
         HoldOuts thirds = two(5, 2, 6, 2, THIRDS);
         due("10: lost of thirds", thirds.lost(0, 0), 2_000_000);
         // 333,333 thrice: 333,332,666,667 and half of as much, cut.
@@ -694,6 +709,11 @@ public final class PromisesTest {
         x.sort(1, 2, 1000);
         sortedRow(x, 0, 4, 0, 1, 1);
         sortedRow(x, 1, -1, -1, -1, -1);
+        HoldOuts poor = two(0, 0, 0, 0, STEP);
+        poor.sort(0, 5, 1000);
+        poor.sort(1, 5, 1000);
+        sortedRow(poor, 0, 0, 0, 1, 1);
+        sortedRow(poor, 1, -1, -1, -1, -1);
         HoldOuts falls = two(0, 1, 0, 0, "win 5-worth;");
         falls.sort(1, 0, 600);
         falls.sort(1, 0, 400);
@@ -828,11 +848,10 @@ public final class PromisesTest {
         due("29: second round", x.learn(0, 2, 0, 2), 1);
         due("29: three rounds", x.learn(0, 3, 1, 2), 2);
         due("29: never", x.learn(0, 500, 0, 7), 0);
-        // The 0 of the first round isn't counted later: 1 against 0, then 0 against 1 alone.
-        HoldOuts once = two(0, 1, 0, 0, "win 9;tie 0;");
-        due("29: a PURSE of 0", once.learn(0, 7, 0, 1), 7);
+        due("29: a PURSE of 0", two(0, 1, 0, 0, "win 9;tie 0;").learn(0, 7, 0, 1), 7);
         HoldOuts pennies = two(1, 1, 1, 1, PENNIES);
-        // 0 puts 0 and 1 puts 1; then 0 puts 1, as only 1 was put; 1 puts 1 against 0.
+        // 0 puts 0 and 1 puts 1; then 0 puts 1, as only 1 was put and the first round's 0 is gone; 1
+        // puts 1 against 0.
         due("29: pennies, 0", pennies.learn(0, 2, 0, 1), 1);
         due("29: pennies, 1", pennies.learn(0, 2, 1, 1), 2);
         // Of one and one the least: third round 0 puts 1, 1 puts 0.
@@ -930,6 +949,8 @@ public final class PromisesTest {
         HoldOuts poor = two(5, 0, 6, 0, "tie 7;win 99;", "tie 0-2;win 99;");
         due("32: a PURSE of 0", poor.deal(0, 0, 0), -1);
         due("32: a PURSE of 0, nothing to pay", poor.deal(1, 0, 0), 0);
+        HoldOuts one = two(5, 2, 6, 0, "tie 1;win 4 if mine=1;win 2;");
+        due("32: by SUM 1", one.deal(0, 0, 0), 0);
         HoldOuts both = two(5, 1, 6, 0, "tie 7;win 14;", "tie 7;win 13;");
         due("32: the payer's PURSE", both.deal(0, 0, 0), 0);
         due("32: the payer's PURSE", both.deal(0, 0, 1), -1);
