@@ -1122,12 +1122,18 @@ public final class HoldOuts {
 
     /** Tries all couples of sets of one to three SUMS, in the order in which RESTS stand. */
     private static final class Finder {
+        // Each of three SUMS with each of both others.
+        private static final int MOST_NEEDS = 6;
+
         private final int[] bits = new int[SET_COUNT];
         private final int[] members = new int[SET_COUNT * MOST_SET];
         private final int[] above = new int[2 * COUPLES];
-        private final int[] needs = new int[MOST_SET * (MOST_SET - 1)];
+        private final int[] needs = new int[2 * SET_COUNT * MOST_NEEDS];
         private final long[] gaps = new long[2 * MOST_SET];
+        // The other's set and CHANCES (not made small) of the latest weigh().
+        private final int[] others = new int[MOST_SET];
         private final long[] weights = new long[MOST_SET];
+        private int weighed = 1;
 
         private Finder() {
             int set = 0;
@@ -1163,15 +1169,16 @@ public final class HoldOuts {
 
         private void search(Table table, int firstPurse, int secondPurse) {
             table.clearRests();
-            compareSums(table, 0);
-            compareSums(table, 1);
+            for (int who = 0; who < 2; who++) {
+                compareSums(table, who);
+                gatherNeeds(who);
+            }
             for (int size = 1; size <= MOST_SET; size++) {
                 int start = SET_STARTS[size - 1];
                 int end = SET_STARTS[size];
                 for (int mine = start; mine < end && bitsOf(mine) < 2 << firstPurse; mine++) {
-                    gatherNeeds(size, mine);
                     for (int other = start; other < end && bitsOf(other) < 2 << secondPurse; other++) {
-                        if (meetsNeeds(size, bitsOf(other)) && mayMix(1, size, other, mine)
+                        if (mayMix(0, size, mine, bitsOf(other)) && mayMix(1, size, other, bitsOf(mine))
                                 && isBest(table, 0, mine, other, firstPurse)
                                 && isBest(table, 1, other, mine, secondPurse)) {
                             int place = (mine - start) * (end - start) + other - start;
@@ -1212,39 +1219,32 @@ public final class HoldOuts {
             return at >= 0 && at < above.length ? above[at] : 0;
         }
 
-        /**
-         * Spares most couples the reckoning: with CHANCES all above 0, two SUMS get the same only if
-         * each gets more against some SUM of the other set, or both the same against all of them;
-         * and then there isn't just one row of CHANCES.
-         */
-        private boolean mayMix(int who, int size, int mine, int other) {
-            int against = bitsOf(other);
-            for (int i = 0; i < size; i++) {
-                for (int j = 0; j < size; j++) {
-                    if (i != j && (aboveOf(who, member(mine, i), member(mine, j)) & against) == 0) {
-                        return false;
-                    }
-                }
-            }
-            return true;
-        }
-
-        /** What mayMix would ask for PLAYER 0's set of all other sets, so that it's looked up once. */
-        private void gatherNeeds(int size, int mine) {
-            int at = 0;
-            for (int i = 0; i < size; i++) {
-                for (int j = 0; j < size; j++) {
-                    if (i != j && at < needs.length) {
-                        needs[at] = aboveOf(0, member(mine, i), member(mine, j));
+        /** Of each set: the bits for each of its SUMS with each other one, in a row. */
+        private void gatherNeeds(int who) {
+            for (int set = 0; set < SET_COUNT; set++) {
+                int at = (who * SET_COUNT + set) * MOST_NEEDS;
+                int size = sizeOf(set);
+                for (int place = 0; place < size * size; place++) {
+                    int one = place / size;
+                    int two = place % size;
+                    if (one != two && at >= 0 && at < needs.length) {
+                        needs[at] = aboveOf(who, member(set, one), member(set, two));
                         at++;
                     }
                 }
             }
         }
 
-        private boolean meetsNeeds(int size, int against) {
-            for (int i = 0; i < size * (size - 1) && i < needs.length; i++) {
-                if ((needs[i] & against) == 0) {
+        /**
+         * Spares most couples the reckoning: with CHANCES all above 0, two SUMS get the same only if
+         * each gets more against some SUM of the other set, or both the same against all of them;
+         * and then there isn't just one row of CHANCES.
+         */
+        private boolean mayMix(int who, int size, int set, int against) {
+            int start = (who * SET_COUNT + set) * MOST_NEEDS;
+            int end = Math.min(start + size * (size - 1), needs.length);
+            for (int at = Math.max(0, start); at < end; at++) {
+                if ((needs[at] & against) == 0) {
                     return false;
                 }
             }
@@ -1260,61 +1260,61 @@ public final class HoldOuts {
             if (!weigh(table, who, mine, other)) {
                 return false;
             }
-            long value = against(table, who, member(mine, 0), other);
+            long value = against(table, who, member(mine, 0));
             for (int sum = 0; sum <= purse; sum++) {
-                if (against(table, who, sum, other) > value) {
+                if (against(table, who, sum) > value) {
                     return false;
                 }
             }
             return true;
         }
 
-        /** What a SUM gets against the other's set, by the weights that stand. */
-        private long against(Table table, int who, int sum, int other) {
+        /** What a SUM gets against the set and the weights that stand. */
+        private long against(Table table, int who, int sum) {
             long value = 0;
-            int size = sizeOf(other);
-            for (int i = 0; i < size && i < weights.length; i++) {
-                value += weights[i] * table.cell(who, sum, member(other, i));
+            for (int i = 0; i < weighed && i < MOST_SET; i++) {
+                value += weights[i] * table.cell(who, sum, others[i]);
             }
             return value;
         }
 
         /** The other's CHANCES with which all SUMS of a set get the same, as weights above 0. */
         private boolean weigh(Table table, int who, int mine, int other) {
-            int size = sizeOf(other);
             int one = member(mine, 0);
             int two = member(mine, 1);
             int three = member(mine, 2);
-            for (int i = 0; i < size && i < MOST_SET; i++) {
-                int sum = member(other, i);
-                int start = table.cell(who, one, sum);
-                gaps[i] = start - table.cell(who, two, sum);
-                gaps[MOST_SET + i] = start - table.cell(who, three, sum);
+            weighed = sizeOf(other);
+            for (int i = 0; i < weighed && i < MOST_SET; i++) {
+                others[i] = member(other, i);
+                int start = table.cell(who, one, others[i]);
+                gaps[i] = start - table.cell(who, two, others[i]);
+                gaps[MOST_SET + i] = start - table.cell(who, three, others[i]);
             }
-            weights[0] = 1;
-            if (size == 2) {
+            if (weighed == 1) {
+                weights[0] = 1;
+            } else if (weighed == 2) {
                 weights[0] = gaps[1];
                 weights[1] = -gaps[0];
-            } else if (size == 3) {
+            } else {
                 weights[0] = gaps[1] * gaps[5] - gaps[2] * gaps[4];
                 weights[1] = gaps[2] * gaps[3] - gaps[0] * gaps[5];
                 weights[2] = gaps[0] * gaps[4] - gaps[1] * gaps[3];
             }
-            return turnAbove(size, total(size));
+            return turnAbove(total());
         }
 
-        private long total(int size) {
+        private long total() {
             long total = 0;
-            for (int i = 0; i < size && i < weights.length; i++) {
+            for (int i = 0; i < weighed && i < MOST_SET; i++) {
                 total += weights[i];
             }
             return total;
         }
 
         /** Turns weights that are all below 0; a total of 0: there is no row, or more than one. */
-        private boolean turnAbove(int size, long total) {
+        private boolean turnAbove(long total) {
             boolean areAbove = total != 0;
-            for (int i = 0; i < size && i < weights.length; i++) {
+            for (int i = 0; i < weighed && i < MOST_SET; i++) {
                 weights[i] = total < 0 ? -weights[i] : weights[i];
                 areAbove = areAbove && weights[i] > 0;
             }
@@ -1342,19 +1342,18 @@ public final class HoldOuts {
             if (!weigh(table, who, mine, other)) {
                 return false;
             }
-            int size = sizeOf(other);
-            long all = total(size);
+            long all = total();
             long common = all;
-            for (int i = 0; i < size && i < weights.length; i++) {
+            for (int i = 0; i < weighed && i < MOST_SET; i++) {
                 common = greatestDivisor(common, weights[i]);
             }
             if (common <= 0) {
                 return false;
             }
-            rest.setMean(who, against(table, who, member(mine, 0), other), all);
+            rest.setMean(who, against(table, who, member(mine, 0)), all);
             rest.setRow(1 - who, bitsOf(other), all / common);
-            for (int i = 0; i < size && i < weights.length; i++) {
-                rest.setChance(1 - who, member(other, i), weights[i] / common);
+            for (int i = 0; i < weighed && i < MOST_SET; i++) {
+                rest.setChance(1 - who, others[i], weights[i] / common);
             }
             return true;
         }
