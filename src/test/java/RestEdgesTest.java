@@ -98,19 +98,20 @@ public final class RestEdgesTest {
         due("the last's size", x.rest(0, 1, 0), 1);
     }
 
-    /** 0's SUMS get the same only with halves for 0 and 1, and nothing for 2. */
+    /** Three SUMS get the same only with halves for 0 and 1, and nothing for 2: of 0, then of 1. */
     private static void promise07ChanceOf0OfThree() {
-        HoldOuts x = two(5, 2, 6, 2, "tie 1+4*(mine/2) if who=0;win 2-3*other if who=0 and mine=2;win 0 if who=0;"
-            + "lose 0 if who=0;" + Edges.THIRDS);
-        for (int r = 0; r < x.rests(0); r++) {
-            due("whether REST " + r + " is of three", x.rest(0, r, 0) == 3 ? 1 : 0, 0);
+        String[] sides = {"who=0", "who=1"};
+        for (int side = 0; side < 2; side++) {
+            String who = sides[side];
+            HoldOuts x = two(5, 2, 6, 2, "tie 1+4*(mine/2) if " + who + ";win 2-3*other if " + who + " and mine=2;win 0 if "
+                + who + ";lose 0 if " + who + ";" + Edges.THIRDS);
+            // 2 against 0; and 0 and 2 against 0 and 1.
+            due("rests with " + who, x.rests(0), 2);
+            due("the first's set", x.rest(0, 0, 1 + side), 4);
+            due("the first's other set", x.rest(0, 0, 2 - side), 1);
+            due("the second's set", x.rest(0, 1, 1 + side), 5);
+            due("the second's other set", x.rest(0, 1, 2 - side), 3);
         }
-        HoldOuts y = two(6, 2, 5, 2, "tie 1+4*(mine/2) if who=1;win 2-3*other if who=1 and mine=2;win 0 if who=1;"
-            + "lose 0 if who=1;" + Edges.THIRDS);
-        for (int r = 0; r < y.rests(0); r++) {
-            due("whether REST " + r + " is of three", y.rest(0, r, 0) == 3 ? 1 : 0, 0);
-        }
-        due("both have none of three", x.rests(0), y.rests(0));
     }
 
     /** Only CHANCES below 0 would make both SUMS the same. */
@@ -248,6 +249,28 @@ public final class RestEdgesTest {
         due("0's CHANCE of 0", x.rest(0, 0, 10), 5);
         due("0's CHANCE of 1", x.rest(0, 0, 11), 1);
         due("1's CHANCE of 0", x.rest(0, 0, 20), 1);
+    }
+
+    /**
+     * Three SUMS of each: 0 gets 1 -5 6, 4 3 -4 and -5 1 5, each 133 by 52, 63 and 66; 1 gets 1 -5 5, 4 3
+     * -4 and -4 1 5, each 119 by 54, 45 and 58.
+     */
+    private static void promise08ChancesOfThree() {
+        HoldOuts x = two(5, 2, 6, 2, "tie mine*2+1;win 7-mine*3 if mine-other=1;win 0-5+who;"
+            + "lose 0-6+other if other-mine=1;lose 8-other-who;");
+        due("rests", x.rests(0), 3);
+        long[] zeros = {54, 45, 58};
+        long[] ones = {52, 63, 66};
+        for (int sum = 0; sum < 3; sum++) {
+            due("0's CHANCE of " + sum, x.rest(0, 2, 10 + sum), zeros[sum]);
+            due("1's CHANCE of " + sum, x.rest(0, 2, 20 + sum), ones[sum]);
+        }
+        due("0's by", x.rest(0, 2, 3), 157);
+        due("1's by", x.rest(0, 2, 4), 181);
+        due("0's MEAN", x.mean(0, 2, 0, false), 133);
+        due("0's MEAN by", x.mean(0, 2, 0, true), 181);
+        due("1's MEAN", x.mean(0, 2, 1, false), 119);
+        due("1's MEAN by", x.mean(0, 2, 1, true), 157);
     }
 
     /** "RESTS stand by how many, then by 0's bits, then by 1's." */
@@ -616,6 +639,23 @@ public final class RestEdgesTest {
         due("none", x.rests(0), 0);
         due("edge", x.edge(0, 0), 10);
         due("none for 1", x.edge(0, 1), -1);
+    }
+
+    /** No REST now, and none with any WORTH, though there was one with lesser PURSES. */
+    private static void promise14NoneThroughout() {
+        HoldOuts x = two(5, 1, 6, 1, "tie worth if who=0;win who;lose who;");
+        due("rests with PURSES of 1", x.rests(0), 1);
+        x.player(0, 5, 3);
+        x.player(1, 6, 3);
+        due("rests with PURSES of 3", x.rests(0), 0);
+        due("edge with PURSES of 3", x.edge(0, 0), -1);
+    }
+
+    /** All but WORTH stays as it is: the PURSE, and the PLAYER's number. */
+    private static void promise14OnlyWorth() {
+        HoldOuts x = two(9, 2, 9, 2, "win worth if mine=purse and purse=2 and who=1;tie 20 if who=1;");
+        due("edge of 1", x.edge(0, 1), 20);
+        due("edge of 0", x.edge(0, 0), -1);
     }
 
     /** "or the first one has other sets": of 0, or of 1. */

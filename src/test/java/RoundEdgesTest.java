@@ -202,6 +202,15 @@ public final class RoundEdgesTest {
         due("with the other", x.leave(1, 1_000, 5), 1_000);
     }
 
+    /** What 0 wins by the other's leaving is less, the more 0 leaves. */
+    private static void promise28WinningByTheOthersLeaving() {
+        HoldOuts x = Texts.with("win 10;lose 9;", "win 10;lose 11;", "win 10;tie 10;lose 10;");
+        due("staying gets more", x.leave(0, 500, 1), 0);
+        due("leaving gets more", x.leave(1, 500, 1), 1_000);
+        due("all is worth the same, so that all is to end", x.leave(2, 500, 1), 1_000);
+        due("tying gets nothing", x.leave(1, 600, 1), 0);
+    }
+
     /** PLAYER 0's GETS are asked, not 1's. */
     private static void promise28OfPlayer0() {
         HoldOuts x = two(6, 2, 4, 2, "lose 5 if who=1;lose 0-5;", "lose worth-5;");

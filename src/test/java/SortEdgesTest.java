@@ -325,6 +325,32 @@ public final class SortEdgesTest {
         noRow(x, 1);
     }
 
+    /** Who loses is asked, too: 0 gets most by putting in less than 1. */
+    private static void promise24Losing() {
+        HoldOuts x = two(0, 1, 0, 1, "lose 5 if who=0;win 5 if who=1;win 0-1;");
+        sortAll(x, 0, 7, 1_000);
+        sortAll(x, 1, 7, 1_000);
+        rowIs(x, 0, 0, 1, 1, 1);
+        noRow(x, 1);
+        HoldOuts y = two(0, 1, 0, 1, "lose 5 if who=1;win 5 if who=0;win 0-1;");
+        sortAll(y, 0, 7, 1_000);
+        sortAll(y, 1, 7, 1_000);
+        rowIs(y, 0, 1, 0, 1, 1);
+        noRow(y, 1);
+    }
+
+    /** Only WORTH is the SORT's: the PURSE and the number are the PLAYER's. */
+    private static void promise24AskedOfASort() {
+        HoldOuts x = two(50, 3, 60, 2, "win worth if mine=purse and who=0;win 0-worth if who=1;tie 0-1;"
+            + "lose 1 if who=1;");
+        sortAll(x, 0, 7, 1_000);
+        sortAll(x, 1, 8, 1_000);
+        rowIs(x, 0, 3, 0, 1, 1);
+        rowIs(x, 1, 3, 1, 1, 1);
+        rowIs(x, 2, 3, 2, 1, 1);
+        noRow(x, 3);
+    }
+
     private static void promise24NoneAtRest() {
         HoldOuts x = two(0, 1, 0, 1, Edges.PENNIES);
         sortAll(x, 0, 5, 1_000);

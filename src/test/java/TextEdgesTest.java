@@ -479,6 +479,34 @@ public final class TextEdgesTest {
         }
     }
 
+    /** With any other letter in any place none of them is that word any more. */
+    private static void promise05WordsToTheLetter() {
+        for (String word : new String[] {"win", "lose", "tie"}) {
+            anotherLetter(word, "", " 1;", 0);
+        }
+        for (String word : new String[] {"worth", "mine", "other", "purse", "who", "day"}) {
+            anotherLetter(word, "tie ", ";", 4);
+        }
+        anotherLetter("if", "win 1 ", " 1<2;", 6);
+        anotherLetter("not", "win 1 if ", " 1<2;", 9);
+        anotherLetter("and", "win 1 if 1<2 ", " 1<2;", 13);
+        anotherLetter("or", "win 1 if 1<2 ", " 1<2;", 13);
+    }
+
+    private static void anotherLetter(String word, String before, String behind, int place) {
+        faultIs(before + word + behind, -1);
+        for (int at = 0; at < word.length(); at++) {
+            for (char letter = 'a'; letter <= 'z'; letter++) {
+                if (letter != word.charAt(at)) {
+                    faultIs(before + word.substring(0, at) + letter + word.substring(at + 1) + behind, place);
+                }
+            }
+        }
+        faultIs(before + 'a' + word + behind, place);
+        faultIs(before + word + 'a' + behind, place);
+        faultIs(before + word + 'z' + behind, place);
+    }
+
     private static void promise05NumberOfOneDigit() {
         faultIs("tie 0;", -1);
         faultIs("tie 9;", -1);
@@ -773,6 +801,26 @@ public final class TextEdgesTest {
     private static void promise06NoDay() {
         valueIs("day", 0);
         valueIs("5+day*3", 5);
+    }
+
+    /** Would it be a day, winning would get 5, and 0 would want to put in 1. */
+    private static void promise06NoDayWhateverIsAsked() {
+        HoldOuts x = Edges.two(9, 1, 9, 0, "win 5 if day>0;");
+        x.player(2, 9, 0);
+        due("rests", x.rests(0), 2);
+        x.sure(0, 1);
+        x.sure(1, 0);
+        due("worth", x.worth(0, 0), 0);
+        due("best", x.best(0, 0), 0);
+        due("run", x.run(0, 1, 9, 0), 0);
+        due("learn", x.learn(0, 9, 0, 0), 9);
+        due("cycle", x.cycle(0, 0, 0, 0), 1);
+        due("three", x.three(0, 0), 0);
+        x.sort(0, 9, 1_000);
+        x.sort(1, 9, 1_000);
+        due("sorted", x.sorted(0, 0, 0), 0);
+        due("deal", x.deal(0, 0, 0), 0);
+        due("days", x.days(0, 0, 1_000, 1, 1), 5_000_000_000L);
     }
 
     private static void promise06WhatIsAsked() {
