@@ -29,6 +29,7 @@ import javax.lang.model.element.Element;
 import javax.lang.model.element.ElementKind;
 import javax.lang.model.element.ExecutableElement;
 import javax.lang.model.element.Modifier;
+import javax.lang.model.element.NestingKind;
 import javax.lang.model.element.TypeElement;
 import javax.lang.model.element.VariableElement;
 import javax.tools.JavaCompiler;
@@ -102,10 +103,15 @@ public final class LanguageTest {
         public Void visitClass(ClassTree tree, Void nothing) {
             classes++;
             TypeElement type = (TypeElement) elementHere();
+            boolean isOuter = type.getNestingKind() == NestingKind.TOP_LEVEL;
+            require(!isOuter || type.getModifiers().equals(Set.of(Modifier.PUBLIC, Modifier.FINAL)), "1", "the outer class");
             int fields = 0;
             for (Element member : type.getEnclosedElements()) {
                 boolean isStatic = member.getModifiers().contains(Modifier.STATIC);
                 if (member instanceof VariableElement) {
+                    boolean isPrivate = member.getModifiers().contains(Modifier.PRIVATE);
+                    boolean isFace = isOuter && member.getSimpleName().contentEquals("NONE");
+                    require(isPrivate || isFace, "1", "the field " + member + " of " + type + " is not private");
                     require(!isStatic || member.getModifiers().contains(Modifier.FINAL), "5", "static " + member);
                     fields += isStatic ? 0 : 1;
                 }

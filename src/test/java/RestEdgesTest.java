@@ -463,6 +463,18 @@ public final class RestEdgesTest {
         due("1 of less", x.wrong(0, 0), 666_666);
     }
 
+    /** "by 1,000,000, cut", one millionth of a millionth below 500,000, with half a one of the ties' cut. */
+    private static void promise11CutJustBelow() {
+        HoldOuts x = two(6, 1, 5, 1, "tie 194 if who=0 and mine=0;tie 495 if who=0;tie 0-223 if mine=0;tie 0-569;");
+        due("how many", x.rests(0), 1);
+        due("0's CHANCE of 0", x.rest(0, 0, 10), 569);
+        due("by", x.rest(0, 0, 3), 792);
+        due("1's CHANCE of 0", x.rest(0, 0, 20), 495);
+        due("by", x.rest(0, 0, 4), 689);
+        // 281,567 by 718,434, and half of (718,432 by 718,434 and 281,567 by 281,565): 499,999,999,999.5.
+        due("1 of less", x.wrong(0, 0), 499_999);
+    }
+
     /** Ties' products together are halved once, and cut: 333,333 thrice by thrice. */
     private static void promise11TiesTogether() {
         due("thirds", two(5, 2, 6, 2, SAME).wrong(0, 6), 499_999);
